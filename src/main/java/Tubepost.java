@@ -363,7 +363,10 @@ public final class Tubepost {
             throw new IllegalArgumentException("no such number of ticks");
         }
         for (int i = 0; i < ticks; i++) {
-            passOne();
+            drawAir();
+            moveCarriers();
+            workAsClerks();
+            tick++;
         }
         return tick;
     }
@@ -554,36 +557,23 @@ public final class Tubepost {
 
     // ---- a tick
 
-    private void passOne() {
+    private void drawAir() {
         receiver.fill();
         for (int i = 0; i < tubes.size(); i++) {
             Tube tube = tubes.get(i);
             tube.pull = receiver.drawFor(tube);
         }
-        for (int i = 0; i < tubes.size(); i++) {
-            moveCarriersIn(tubes.get(i));
-        }
-        for (int i = 0; i < stations.size(); i++) {
-            Station station = stations.get(i);
-            if (station.isOpenIn(tick)) {
-                workAt(station);
-            }
-        }
-        tick++;
     }
 
-    /** From the end to which the tube is blown, so that each one finds free what those ahead have left. */
-    private void moveCarriersIn(Tube tube) {
-        if (tube.inside == 0 || tube.pull == 0) {
-            return;
-        }
-        if (tube.blownTo == 's') {
-            for (int cell = tube.length - 1; cell >= 0; cell--) {
-                moveFrom(tube, cell, 1);
-            }
-        } else {
-            for (int cell = 0; cell < tube.length; cell++) {
-                moveFrom(tube, cell, -1);
+    /** From the end to which a tube is blown, so that each one finds free what those ahead have left. */
+    private void moveCarriers() {
+        for (int i = 0; i < tubes.size(); i++) {
+            Tube tube = tubes.get(i);
+            int step = tube.blownTo == 's' ? 1 : -1;
+            int cell = step > 0 ? tube.length - 1 : 0;
+            for (int left = tube.inside > 0 ? tube.length : 0; left > 0; left--) {
+                moveFrom(tube, cell, step);
+                cell -= step;
             }
         }
     }
@@ -618,10 +608,12 @@ public final class Tubepost {
         log.write(letter, tick, carrier.number, station.number);
     }
 
-    private void workAt(Station station) {
-        for (int done = 0; done < station.clerk; done++) {
-            if (!emptyOneAt(station) && !sendOneFrom(station) && !packOneAt(station)) {
-                return;
+    private void workAsClerks() {
+        for (int i = 0; i < stations.size(); i++) {
+            Station station = stations.get(i);
+            boolean busy = station.isOpenIn(tick);
+            for (int done = 0; busy && done < station.clerk; done++) {
+                busy = emptyOneAt(station) || sendOneFrom(station) || packOneAt(station);
             }
         }
     }
@@ -935,7 +927,10 @@ public final class Tubepost {
         }
 
         int leadingTube(int station, int other) {
-            return isPair(station, other) ? leading[station][other] : NONE;
+            if (station < 0 || station >= MOST_STATIONS || other < 0 || other >= MOST_STATIONS) {
+                return NONE;
+            }
+            return leading[station][other];
         }
 
         /** Adds the next tube. */

@@ -492,6 +492,12 @@ public final class CarrierTest {
         x.pass(5);
         Check.is("loaded without a dial, it stays so", -1, x.dialOf(0));
         Check.is("log", "a0@0:0 p0@0:0 e0@1:0", Nets.log(x));
+        x.carrier(1);
+        x.accept(1, 0, 0, 9);
+        x.pass(1);
+        x.dial(1, 1);
+        x.pass(1);
+        Check.is("dial of the only item left", 0, x.dialOf(1));
     }
 
     private static void emptiesWhateverTheDial() {

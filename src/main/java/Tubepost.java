@@ -4,7 +4,8 @@ import java.util.NoSuchElementException;
 /**
  * A city's pneumatic mail: stations with clerks, tubes that are blown one way or the other, air that
  * is made, stored, used and lost, carriers that wear, stick and cannot pass one another, items with
- * ranks, tariffs and stamps, and a log from which the places of the carriers can be told again.
+ * ranks, tariffs and stamps, and a log from which the places of the carriers can be told again. What
+ * each call takes, answers and throws is told by the promises of the document.
  */
 public final class Tubepost {
     private static final int NONE = -1;
@@ -35,13 +36,11 @@ public final class Tubepost {
     private int tick = 0;
     private long balance = 0L;
 
-    /** Creates a mail without stations, at the tick 0. */
     public Tubepost() {
     }
 
     // ---- net
 
-    /** Adds a station, and returns its number. */
     public int station(int clerk) throws IllegalArgumentException, IllegalStateException {
         if (clerk < 1 || clerk > MOST_THINGS) {
             throw new IllegalArgumentException("no such clerk");
@@ -54,7 +53,6 @@ public final class Tubepost {
         return added.number;
     }
 
-    /** Sets the hours of a station, and returns its first hour before. */
     public int setHours(int station, int from, int to) throws IndexOutOfBoundsException, IllegalArgumentException {
         Station changed = stationAt(station);
         if (from < 0 || from >= HOURS || to <= from || to > HOURS) {
@@ -66,7 +64,6 @@ public final class Tubepost {
         return before;
     }
 
-    /** Adds a tube, and returns its number. */
     public int tube(int first, int second, int cells)
             throws IndexOutOfBoundsException, IllegalArgumentException, IllegalStateException {
         Station start = stationAt(first);
@@ -83,7 +80,6 @@ public final class Tubepost {
         return added.number;
     }
 
-    /** Blows a tube another way, and returns the way before. */
     public char blow(int tube, char way)
             throws IndexOutOfBoundsException, IllegalArgumentException, IllegalStateException {
         Tube blown = tubeAt(tube);
@@ -98,7 +94,6 @@ public final class Tubepost {
         return before;
     }
 
-    /** Sets leak and water of a tube, and returns 10 times the leak plus the water before. */
     public int setTube(int tube, int leak, int water) throws IndexOutOfBoundsException, IllegalArgumentException {
         Tube changed = tubeAt(tube);
         if (leak < 0 || leak > MOST_LEAK || water < 0 || water > MOST_WATER) {
@@ -110,7 +105,6 @@ public final class Tubepost {
         return before;
     }
 
-    /** Sets the gap of a tube, and returns the gap before. */
     public int setGap(int tube, int gap) throws IndexOutOfBoundsException, IllegalArgumentException {
         Tube changed = tubeAt(tube);
         if (gap < 0 || gap > MOST_GAP) {
@@ -121,7 +115,6 @@ public final class Tubepost {
         return before;
     }
 
-    /** Sets the power of the blowers, and returns the power before. */
     public int setPower(int power) throws IllegalArgumentException {
         if (power < 0 || power > MOST_POWER) {
             throw new IllegalArgumentException("no such power");
@@ -131,7 +124,6 @@ public final class Tubepost {
         return before;
     }
 
-    /** Tells the tube for a way, or -1 for none, and returns the one told before. */
     public int setWay(int station, int other, int tube) throws IndexOutOfBoundsException, IllegalArgumentException {
         needStations(station, other);
         if (tube < NONE || tube >= tubes.size()) {
@@ -143,7 +135,6 @@ public final class Tubepost {
         return ways.tell(station, other, tube);
     }
 
-    /** Returns the tube to which the way from a station to another one leads. */
     public int wayOf(int station, int other) throws IndexOutOfBoundsException, NoSuchElementException {
         needStations(station, other);
         Tube next = nextTube(station, other);
@@ -153,12 +144,10 @@ public final class Tubepost {
         return next.number;
     }
 
-    /** Returns the draught of a tube in the last tick. */
     public int draught(int tube) throws IndexOutOfBoundsException {
         return tubeAt(tube).pull;
     }
 
-    /** Returns how much air is in the receiver, or was made, used or lost so far. */
     public int air(char what) throws IllegalArgumentException {
         if (what == 'r') {
             return receiver.stored;
@@ -177,7 +166,6 @@ public final class Tubepost {
 
     // ---- carriers
 
-    /** Adds an empty carrier at a station, and returns its number. */
     public int carrier(int station) throws IndexOutOfBoundsException, IllegalStateException {
         Station home = stationAt(station);
         if (carriers.size() >= MOST_CARRIERS) {
@@ -190,7 +178,6 @@ public final class Tubepost {
         return added.number;
     }
 
-    /** Sets the dial of a carrier that waits at a station, and returns the dial before. */
     public int dial(int carrier, int station) throws IndexOutOfBoundsException, IllegalStateException {
         Carrier changed = carrierAt(carrier);
         if (station < NONE || station >= stations.size()) {
@@ -204,7 +191,6 @@ public final class Tubepost {
         return before;
     }
 
-    /** Greases a carrier, and returns its wear before. */
     public int grease(int carrier) throws IndexOutOfBoundsException, IllegalStateException {
         Carrier greased = carrierAt(carrier);
         if (greased.tube != null) {
@@ -215,7 +201,6 @@ public final class Tubepost {
         return before;
     }
 
-    /** Wears a carrier, and returns its wear then. */
     public int wear(int carrier, int by) throws IndexOutOfBoundsException, IllegalArgumentException {
         Carrier changed = carrierAt(carrier);
         if (by < 0 || by > MOST_WEAR) {
@@ -225,7 +210,6 @@ public final class Tubepost {
         return changed.worn;
     }
 
-    /** Writes an order for a carrier, and returns whether there was one. */
     public boolean order(int carrier) throws IndexOutOfBoundsException {
         Carrier ordered = carrierAt(carrier);
         boolean before = ordered.hasOrder;
@@ -233,35 +217,29 @@ public final class Tubepost {
         return before;
     }
 
-    /** Returns the station of a carrier, or 100 times its tube plus 100 plus its cell. */
     public int placeOf(int carrier) throws IndexOutOfBoundsException {
         Carrier asked = carrierAt(carrier);
         return asked.tube == null ? asked.placeWithoutCell() : asked.placeWithoutCell() + asked.cell;
     }
 
-    /** Returns the same by the log, without the cell. */
     public int placeByLog(int carrier) throws IndexOutOfBoundsException {
         return log.placeToldOf(carrierAt(carrier).number);
     }
 
-    /** Returns the station to which the dial of a carrier is set, or -1. */
     public int dialOf(int carrier) throws IndexOutOfBoundsException {
         return carrierAt(carrier).address;
     }
 
-    /** Returns the sum of the weights of the items in a carrier. */
     public int weightOf(int carrier) throws IndexOutOfBoundsException {
         return carrierAt(carrier).load;
     }
 
-    /** Returns why a carrier does not leave, as things are now, or '-' if it can. */
     public char why(int carrier) throws IndexOutOfBoundsException {
         return reasonToStay(carrierAt(carrier));
     }
 
     // ---- items
 
-    /** Accepts an item, and returns its price. */
     public int accept(int from, int to, int rank, int weight) throws IndexOutOfBoundsException,
             IllegalArgumentException, NoSuchElementException, IllegalStateException {
         Station start = stationAt(from);
@@ -284,12 +262,10 @@ public final class Tubepost {
         return accepted.price;
     }
 
-    /** Returns whether an item waits, is in a carrier, or is delivered. */
     public char itemState(int item) throws IndexOutOfBoundsException {
         return itemAt(item).state;
     }
 
-    /** Returns the first or the second stamp of an item. */
     public int stamp(int item, boolean ofDelivery) throws IndexOutOfBoundsException, NoSuchElementException {
         Item asked = itemAt(item);
         if (!ofDelivery) {
@@ -301,7 +277,6 @@ public final class Tubepost {
         return asked.deliveredIn;
     }
 
-    /** Claims back for an item that is late, and returns what is paid back. */
     public int claim(int item) throws IndexOutOfBoundsException, NoSuchElementException, IllegalStateException {
         Item asked = itemAt(item);
         if (asked.state != 'd') {
@@ -316,14 +291,12 @@ public final class Tubepost {
         return paid;
     }
 
-    /** Returns what was earned, less what was paid back and spent on digging. */
     public long earned() {
         return balance;
     }
 
     // ---- blocked tubes, ticks, log
 
-    /** Returns where the lowest stuck carrier in a tube is heard. */
     public int sound(int tube) throws IndexOutOfBoundsException, NoSuchElementException {
         Carrier stuck = lowestStuckIn(tubeAt(tube));
         if (stuck == null) {
@@ -332,7 +305,6 @@ public final class Tubepost {
         return stuck.cell + 1 - tick % 3;
     }
 
-    /** Returns where pressure tells the lowest stuck carrier in a tube. */
     public int pressure(int tube) throws IndexOutOfBoundsException, NoSuchElementException {
         Carrier stuck = lowestStuckIn(tubeAt(tube));
         if (stuck == null) {
@@ -341,7 +313,6 @@ public final class Tubepost {
         return stuck.cell + (tick + stuck.number) % 4 - 2;
     }
 
-    /** Digs at a cell, and returns whether a stuck carrier was there. */
     public boolean dig(int tube, int cell) throws IndexOutOfBoundsException {
         Tube dug = tubeAt(tube);
         if (!dug.hasCell(cell)) {
@@ -357,7 +328,6 @@ public final class Tubepost {
         return true;
     }
 
-    /** Lets ticks go by, and returns the tick. */
     public int pass(int ticks) throws IllegalArgumentException {
         if (ticks < 1 || ticks > MOST_TICKS) {
             throw new IllegalArgumentException("no such number of ticks");
@@ -371,18 +341,15 @@ public final class Tubepost {
         return tick;
     }
 
-    /** Returns the number of entries of the log. */
     public int entries() {
         return log.size;
     }
 
-    /** Returns the letter of an entry of the log. */
     public char entryAt(int index) throws IndexOutOfBoundsException {
         needEntry(index);
         return log.letterAt(index);
     }
 
-    /** Returns the tick 't', the carrier 'c', or the tube or station 'p' of an entry of the log. */
     public int entryOf(int index, char what) throws IndexOutOfBoundsException, IllegalArgumentException {
         needEntry(index);
         if (what == 't') {
@@ -397,7 +364,6 @@ public final class Tubepost {
         throw new IllegalArgumentException("no such thing of an entry");
     }
 
-    /** Returns the share of the items delivered that were late. */
     public float lateShare() throws ArithmeticException {
         int delivered = countDelivered();
         if (delivered == 0) {
@@ -412,7 +378,6 @@ public final class Tubepost {
         return (float) late / (float) delivered;
     }
 
-    /** Returns the mean time from stamp to stamp of the items delivered. */
     public double meanTime() throws ArithmeticException {
         int delivered = countDelivered();
         if (delivered == 0) {
@@ -428,7 +393,6 @@ public final class Tubepost {
         return (double) sum / (double) delivered;
     }
 
-    /** Checks that air is conserved, that no two carriers met, and that the log tells each carrier's place. */
     public boolean isSound() {
         return receiver.isBalanced() && noTwoInOneCell() && allWhereTheLogTells();
     }
@@ -933,7 +897,6 @@ public final class Tubepost {
             return leading[station][other];
         }
 
-        /** Adds the next tube. */
         void join(int first, int second) {
             if (size >= MOST_TUBES || !isPair(first, second)) {
                 return;

@@ -20,6 +20,7 @@ public final class LongRunTest {
         Check.is("last entry", "i" + (ticks - 1), "" + x.entryAt(entries - 1) + x.entryOf(entries - 1, 't'));
         Check.is("an entry far on", 20_000, x.entryOf(12 + 24 * 20_000, 't'));
         Check.is("an entry early", "a11", "" + x.entryAt(11) + x.entryOf(11, 'c'));
+        entriesByTicks(x, entries);
         long[] size = State.sizeOf(x);
         System.out.println(entries + " entries, " + size[0] + " objects, " + size[1] + " fields and elements");
         Check.is("objects have room", true, size[0] < MOST_OBJECTS / 10);
@@ -32,6 +33,18 @@ public final class LongRunTest {
         int last = x.entries() - 1;
         Check.is("no exception past the end", false, Check.answer(() -> x.entryAt(last)).contains("throws"));
         Check.end();
+    }
+
+    /** 12 carriers were added, went in in the tick 0, and then came out and went in in each tick. */
+    private static void entriesByTicks(Tubepost x, int entries) {
+        boolean wrong = false;
+        for (int i = 0; i < entries && !wrong; i++) {
+            int tick = i < 24 ? 0 : i / 24;
+            char letter = i < 12 ? 'a' : i < 24 || i % 24 >= 12 ? 'i' : 'o';
+            wrong = x.entryAt(i) != letter || x.entryOf(i, 't') != tick;
+        }
+        Check.is("each entry is kept as it was written", false, wrong);
+        Check.throwsIt(x, "beyond the last entry", IndexOutOfBoundsException.class, () -> x.entryAt(entries));
     }
 
     /**

@@ -22,9 +22,14 @@ final class Nets {
 
     /** Each entry as letter, carrier, '@', tick, ':', place. */
     static String log(Tubepost x) {
+        return logFrom(x, 0);
+    }
+
+    /** The same from an entry on. */
+    static String logFrom(Tubepost x, int first) {
         StringBuilder text = new StringBuilder();
-        for (int i = 0; i < x.entries(); i++) {
-            text.append(i == 0 ? "" : " ").append(x.entryAt(i)).append(x.entryOf(i, 'c')).append('@')
+        for (int i = first; i < x.entries(); i++) {
+            text.append(i == first ? "" : " ").append(x.entryAt(i)).append(x.entryOf(i, 'c')).append('@')
                     .append(x.entryOf(i, 't')).append(':').append(x.entryOf(i, 'p'));
         }
         return text.toString();

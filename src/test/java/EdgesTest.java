@@ -118,18 +118,21 @@ public final class EdgesTest {
     /** The second carrier goes in as many ticks behind the first one as the gap has, and never in the same. */
     private static void gaps() {
         for (int gap = 0; gap <= 20; gap++) {
-            Tubepost x = Nets.pair(3, 12);
-            x.setGap(0, gap);
-            for (int i = 0; i < 2; i++) {
-                x.carrier(0);
-                x.dial(i, 1);
-            }
-            x.pass(1);
-            for (int gone = 1; gone <= Math.max(gap, 1); gone++) {
-                String told = gone + " ticks of the gap " + gap;
-                Check.is("why, " + told, gone == 1 ? 'c' : gone < gap ? 'g' : '-', x.why(1));
+            for (int from = 0; from < 2; from++) {
+                Tubepost x = Nets.pair(3, 12);
+                x.blow(0, from == 0 ? 's' : 'f');
+                x.setGap(0, gap);
+                for (int i = 0; i < 2; i++) {
+                    x.carrier(from);
+                    x.dial(i, 1 - from);
+                }
                 x.pass(1);
-                Check.is("place, " + told, gone < gap ? 0 : 100, x.placeOf(1));
+                for (int gone = 1; gone <= Math.max(gap, 1); gone++) {
+                    String told = gone + " ticks of the gap " + gap;
+                    Check.is("why, " + told, gone == 1 ? 'c' : gone < gap ? 'g' : '-', x.why(1));
+                    x.pass(1);
+                    Check.is("place, " + told, gone < gap ? from : from == 0 ? 100 : 111, x.placeOf(1));
+                }
             }
         }
     }

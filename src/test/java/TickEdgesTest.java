@@ -16,9 +16,12 @@ public final class TickEdgesTest {
         packsThenSendsInATick();
         anEmptyOneIsAsPrivate();
         waitsAreNotNumbers();
+        theWaitGoesOn();
+        ordersStay();
         allWaysOfALine();
         toldTubes();
         ordersInTime();
+        ordersThatWereNotNeeded();
         pricesOfALine();
         latenessOfAll();
         stampsOverMidnight();
@@ -218,6 +221,42 @@ public final class TickEdgesTest {
         }
     }
 
+    /** One that is emptied, packed, greased or told a dial waits as from when it came. */
+    private static void theWaitGoesOn() {
+        Tubepost x = Nets.pair(1, 1);
+        x.blow(0, '-');
+        x.carrier(0);
+        x.carrier(0);
+        x.dial(0, 0);
+        x.accept(0, 1, 0, 6);
+        x.accept(0, 1, 0, 6);
+        x.pass(2);
+        Check.is("emptied and packed first", "e0@0:0 p0@1:0", Nets.logFrom(x, 2));
+        x.pass(1);
+        x.wear(0, 5);
+        x.grease(0);
+        x.dial(0, -1);
+        x.dial(0, 1);
+        x.blow(0, 's');
+        x.pass(1);
+        Check.is("and sent first", "p1@2:0 i0@3:0", Nets.logFrom(x, 4));
+    }
+
+    /** An order is there until the carrier leaves, whatever is done with it. */
+    private static void ordersStay() {
+        Tubepost x = sent(12, 's', 100);
+        x.order(0);
+        x.accept(0, 1, 0, 1);
+        x.pass(1);
+        x.dig(0, 0);
+        x.grease(0);
+        x.dial(0, 0);
+        x.blow(0, '-');
+        x.pass(3);
+        Check.is("dug out, greased, emptied, packed", "d0@2:0 e0@2:0 p0@2:0", Nets.logFrom(x, 2));
+        Check.is("the order is there", true, x.order(0));
+    }
+
     private static void allWaysOfALine() {
         Tubepost x = Nets.stations(8, 1);
         for (int i = 0; i < 7; i++) {
@@ -285,6 +324,26 @@ public final class TickEdgesTest {
         x.dial(1, 0);
         Check.is("the order is used up", 'g', x.why(1));
         Check.is("none is there", false, x.order(1));
+    }
+
+    /** An order is used up also where the gap has just gone, or is 0, or where none went in before. */
+    private static void ordersThatWereNotNeeded() {
+        for (int gap = 0; gap <= 20; gap++) {
+            Tubepost x = Nets.pair(3, 12);
+            x.setGap(0, gap);
+            x.carrier(0);
+            x.carrier(0);
+            x.order(0);
+            x.dial(0, 1);
+            x.pass(Math.max(gap, 2));
+            Check.is("the first one's, gap " + gap, false, x.order(0));
+            x.order(1);
+            x.dial(1, 1);
+            x.pass(1);
+            Check.is("in", 100, x.placeOf(1));
+            Check.is("the second one's, gap " + gap, false, x.order(1));
+            Check.is("one written in the tube", true, x.order(0));
+        }
     }
 
     /** 2 plus the weight times the fewest tubes, twice for the rank 1, nothing for 2. */

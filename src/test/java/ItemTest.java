@@ -60,6 +60,8 @@ public final class ItemTest {
         }
         Check.throwsIt(x, "accept apart, closed", NONE, () -> x.accept(0, 2, 0, 1));
         Check.throwsIt(x, "accept apart", NONE, () -> x.accept(2, 0, 0, 1));
+        x.setWay(1, 2, 0);
+        Check.throwsIt(x, "accept apart, a tube told", NONE, () -> x.accept(1, 2, 0, 1));
         Check.throwsIt(x, "accept closed", NOT_NOW, () -> x.accept(0, 1, 0, 1));
         Check.is("accept at the open one", 3, x.accept(1, 0, 0, 1));
         Check.throwsIt(x, "item -1", OUT, () -> x.itemState(-1));
